@@ -4,6 +4,7 @@ public final class FoundTest {
 
     public static void main(String[] args) {
         promise20Knee();
+        promise20ByHand();
         promise20FirstOfSeveral();
         promise20None();
         promise20Refused();
@@ -32,6 +33,45 @@ public final class FoundTest {
         PartCurves y = Bench.on(Bench.turned(1));
         y.sweep(0, -1000, 200, 1, 0, 0);
         check.due("20 below 0", 3, y.knee(0, 5));
+    }
+
+    private static void put(PartCurves x, int v, int g) {
+        x.set(0, 0, g);
+        x.pulse(v, 1);
+    }
+
+    private static void promise20ByHand() {
+        PartCurves x = Bench.on(Bench.wired(1));
+        x.set(0, 1, 1);
+        x.sweep(0, 2, 1, 1, 0, 0);
+        check.due("20 as near as can be", 1, x.knee(0, 2));
+        x = Bench.on(Bench.wired(0));
+        x.limit(300);
+        put(x, 900, 3000);
+        x.limit(20000);
+        put(x, 200, 2000);
+        put(x, 300, 1000);
+        put(x, 400, 2600);
+        put(x, 500, 2000);
+        // (100, 300) (200, 400) (300, 300) (400, 1040) (500, 1000): 30000, 140000, 86000
+        check.due("20 points by hand", 2, x.knee(0, 4));
+        x.clear();
+        x.limit(300);
+        put(x, 900, 3000);
+        x.limit(20000);
+        put(x, 130, 5000);
+        put(x, 400, 2000);
+        put(x, 500, 2000);
+        // (100, 300) (130, 650) (400, 800) (500, 1000): 119000, 10000
+        check.due("20 points by hand", 1, x.knee(0, 3));
+        x.clear();
+        x.limit(1000);
+        put(x, 1000, 1000);
+        put(x, 1000, 10);
+        put(x, 100, 10);
+        put(x, 10, 1000);
+        // (1000, 1000) (1000, 10) (100, 1) (10, 10): 980100, 89100 - 1
+        check.due("20 a corner", 1, x.knee(0, 3));
     }
 
     private static void promise20FirstOfSeveral() {
@@ -189,6 +229,19 @@ public final class FoundTest {
         check.due("22 alike in forced volts alone", 600, x.gap(0, 3));
         check.due("22 forced ones differ", 0, x.gap(2, 3));
         check.due("22 alike in told volts alone", 0, x.gap(0, 1));
+        x.clear();
+        x.pulse(1000, 1);
+        x.limit(1000);
+        x.pulse(2000, 1);
+        x.limit(400);
+        x.pulse(1000, 1);
+        check.due("22 told ones as forced ones", 0, x.gap(0, 2));
+        x.clear();
+        x.limit(1000);
+        x.pulse(2000, 1);
+        x.limit(400);
+        x.pulse(1000, 1);
+        check.due("22 told ones as forced ones", 0, x.gap(0, 1));
     }
 
     private static void promise22Refused() {
@@ -245,6 +298,11 @@ public final class FoundTest {
         check.due("23 rule 1", 2, x.many(4));
         check.due("23 rule 2", 1, x.many(5));
         check.due("23 all", 4, x.many(1));
+        x.clear();
+        x.pulse(3000, 1);
+        x.pulse(500, 1);
+        check.due("23 the first counts", 1, x.many(4));
+        check.due("23 the last counts", 1, x.many(5));
         x.clear();
         check.due("23 rule 1", 0, x.many(4));
         check.due("23 rule 2", 0, x.many(5));

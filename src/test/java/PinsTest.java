@@ -356,6 +356,12 @@ public final class PinsTest {
         x.relay(0, 2, 1);
         x.relay(2, 2, 1);
         check.due("11 high at two pins", 2, x.now(1));
+        x.relay(0, 2, 0);
+        x.relay(2, 2, 0);
+        check.due("11 four again", 4, x.now(1));
+        x.relay(1, 3, 1);
+        x.relay(3, 3, 1);
+        check.due("11 low at two pins", 2, x.now(1));
     }
 
     private static void promise11Now() {

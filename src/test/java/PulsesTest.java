@@ -68,6 +68,7 @@ public final class PulsesTest {
         amps("two knees", x, -609, -61 - 14);
         x.set(0, 1, 100);
         amps("two knees", x, 609, 60 + 763);
+        amps("two knees", x, -3000, -300 - 4350);
     }
 
     private static void promise12Snap() {
@@ -155,8 +156,12 @@ public final class PulsesTest {
         would(x, 600, 500, 500, 1);
         x.limit(499);
         would(x, 600, 499, 499, 1);
+        would(x, -600, -499, -499, 1);
         x.limit(501);
         would(x, 600, 500, 500, 2);
+        would(x, -600, -500, -500, 2);
+        x.limit(500);
+        would(x, -600, -500, -500, 1);
         Bench.sensed(x);
         x.limit(1000);
         would(x, 600, 600, 600, 0);
