@@ -20,6 +20,14 @@ final class Check {
         due(what, 1, right ? 1 : 0);
     }
 
+    void same(String what, String want, String got) {
+        asked++;
+        if (!got.equals(want)) {
+            wrong++;
+            System.out.println(name + ": " + what + " shows " + got + ", due is " + want);
+        }
+    }
+
     int wrong() {
         return wrong;
     }
