@@ -58,6 +58,9 @@ public final class LanguageTest {
                 found.add(method.getReturnType() + " " + method.getName() + "(" + method.getParameterCount() + ")");
             }
             check.holds(method + " takes at most seven", method.getParameterCount() <= 7);
+            for (Class<?> type : method.getParameterTypes()) {
+                check.holds(method + " takes ints alone, if it is of the face", isPrivate || type == int.class);
+            }
         }
         check.holds("the face is " + found, found.equals(due));
         hidden.retainAll(open);
@@ -65,6 +68,8 @@ public final class LanguageTest {
         check.holds("the class is public and final", Modifier.isPublic(PartCurves.class.getModifiers())
                 && Modifier.isFinal(PartCurves.class.getModifiers()));
         check.due("constructors", 1, PartCurves.class.getDeclaredConstructors().length);
+        check.due("public constructors", 1, PartCurves.class.getConstructors().length);
+        check.due("what it takes", 0, PartCurves.class.getDeclaredConstructors()[0].getParameterCount());
     }
 
     private static void constants() {
@@ -78,6 +83,10 @@ public final class LanguageTest {
         for (Field field : PartCurves.class.getDeclaredFields()) {
             if (!Modifier.isPrivate(field.getModifiers())) {
                 open.add(field.getName());
+                check.due(field + " is public, static and final",
+                        Modifier.PUBLIC | Modifier.STATIC | Modifier.FINAL, field.getModifiers());
+                check.holds(field + " is of its type",
+                        field.getType() == (field.getName().equals("LOST") ? long.class : int.class));
             }
         }
         Set<String> due = new TreeSet<>(List.of("UNKNOWN", "OUTSIDE", "STATE", "FULL", "NONE", "LOST"));

@@ -31,9 +31,12 @@ final class Model {
         return least <= v && v <= most;
     }
 
+    /** The greatest whole number that is not above up by low (low above 0). */
     private static long down(long up, long low) {
-        return BigInteger.valueOf(up).subtract(BigInteger.valueOf(up).mod(BigInteger.valueOf(low)))
-                .divide(BigInteger.valueOf(low)).longValueExact();
+        long down = up / low;
+        while (down * low > up) down--;
+        while ((down + 1) * low <= up) down++;
+        return down;
     }
 
     private boolean there(int n) {
