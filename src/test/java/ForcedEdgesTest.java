@@ -99,6 +99,11 @@ public final class ForcedEdgesTest {
         would("limit 5 of 5", wired(0, 5000, 5, 0), new int[][] {
             {1, 1, 5, 0}, {2, 1, 5, 1}, {-1, -1, -5, 0}, {-2, -1, -5, 1}});
         would("limit 6 of 5", wired(0, 5000, 6, 0), new int[][] {{2, 1, 5, 1}, {-2, -1, -5, 1}});
+        would("1 at 1, but 2 at -1", wired(0, 1500, 1, 0), new int[][] {{1, 1, 1, 0}, {2, 1, 1, 1}, {-1, 0, 0, 1}});
+        PartCurves x = Bench.turned(0);
+        x.set(0, 0, 1500);
+        x.limit(1);
+        would("turned, 2 at 1, but 1 at -1", x, new int[][] {{1, 0, 0, 1}, {-1, -1, -1, 0}, {-2, -1, -1, 1}});
     }
 
     private static void atMostLimit() {

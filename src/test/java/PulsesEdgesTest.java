@@ -408,6 +408,15 @@ public final class PulsesEdgesTest {
         open("burnt, 0 is less than 1", 0, x, 3000);
         open("burnt ones do not open", 0, x, 600);
         open("burnt ones do not open", 0, x, 3000);
+        x.set(0, 3, 0);
+        open("burnt ones do not open, nor would 0 amps shut it", 0, x, 3000);
+        x = snap(2000, 2000, 0);
+        x.limit(3998);
+        x.pulse(3000, 50);
+        x.pulse(3000, 50);
+        check.due("14 burnt, shut", 10, 10 * x.ofPart(0, 4) + x.ofPart(0, 5));
+        open("burnt ones that were shut do not open", 0, x, 3000);
+        read("burnt, shut", x, 3000, 0, 0);
     }
 
     // ---- 15
